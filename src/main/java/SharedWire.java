@@ -207,10 +207,10 @@ public final class SharedWire {
             return pauseStep();
         }
         if (state == REST) {
-            beginToSend();
+            letNodesBegin();
         }
-        int level = levelOnWire();
-        if (showLevel(level, disturbed)) {
+        int level = letNodesSend();
+        if (letNodesSee(level, disturbed)) {
             breakOff();
         } else {
             goOn();
@@ -240,22 +240,22 @@ public final class SharedWire {
         stepsInState = 0;
     }
 
-    private void beginToSend() {
+    private void letNodesBegin() {
         for (int i = 0; i < NODES; i++) {
             nodes[i].beginToSend();
         }
     }
 
-    private int levelOnWire() {
+    private int letNodesSend() {
         int level = 1;
         for (int i = 0; i < NODES; i++) {
-            level &= nodes[i].sends();
+            level &= nodes[i].send();
         }
         return level;
     }
 
     /** Answers whether a node found a fault. */
-    private boolean showLevel(int level, int disturbed) {
+    private boolean letNodesSee(int level, int disturbed) {
         boolean wrong = false;
         for (int i = 0; i < NODES; i++) {
             int seen = level ^ (disturbed >> i & 1);
@@ -303,14 +303,13 @@ public final class SharedWire {
         int identifier;
         long data;
         int bytes;
+        int numberPlace;
+        private int high;
+        private int rank;
 
         static boolean mayHave(boolean isLong, int identifier, int bytes) {
             int identifierBits = isLong ? HIGH_BITS + LOW_BITS : HIGH_BITS;
             return identifier >= 0 && identifier < 1 << identifierBits && bytes >= 0 && bytes <= BYTE_LIMIT;
-        }
-
-        static int numberPlace(boolean isLong) {
-            return isLong ? LONG_NUMBER_PLACE : SHORT_NUMBER_PLACE;
         }
 
         void become(boolean newIsLong, int newIdentifier, long newData, int newBytes) {
@@ -318,20 +317,23 @@ public final class SharedWire {
             identifier = newIdentifier;
             data = newData;
             bytes = newBytes;
+            numberPlace = isLong ? LONG_NUMBER_PLACE : SHORT_NUMBER_PLACE;
+            high = isLong ? identifier >> LOW_BITS : identifier;
+            int low = isLong ? identifier & LOW_MASK : 0;
+            rank = (high << 1 | (isLong ? 1 : 0)) << LOW_BITS | low;
         }
 
         boolean comesBefore(Frame other) {
-            return rank() < other.rank();
+            return rank < other.rank;
         }
 
         /** The bit that stands at a place before the check. */
         int levelAt(int place) {
-            int numberPlace = numberPlace(isLong);
             if (place < 1) {
                 return 0;
             }
             if (place <= HIGH_BITS) {
-                return high() >> (HIGH_BITS - place) & 1;
+                return high >> (HIGH_BITS - place) & 1;
             }
             if (place < numberPlace) {
                 return isLong ? levelBehindHigh(place) : 0;
@@ -356,15 +358,6 @@ public final class SharedWire {
             }
             return 0;
         }
-
-        private int high() {
-            return isLong ? identifier >> LOW_BITS : identifier;
-        }
-
-        private int rank() {
-            int head = high() << 1 | (isLong ? 1 : 0);
-            return head << LOW_BITS | (isLong ? identifier & LOW_MASK : 0);
-        }
     }
 
     /**
@@ -374,7 +367,7 @@ public final class SharedWire {
     private static final class Reader {
         private static final int UNKNOWN_PLACE = 1000;
         private static final int ALIKE_LIMIT = 5;
-        private static final int CHECK_TOP = 1 << Frame.CHECK_BITS - 1;
+        private static final int CHECK_TOP = 1 << (Frame.CHECK_BITS - 1);
         private static final int CHECK_MASK = (1 << Frame.CHECK_BITS) - 1;
         private static final int CHECK_TAPS = 0x4599;
 
@@ -382,7 +375,7 @@ public final class SharedWire {
         private static final int ANSWER_END = 2;
         private static final int TAIL_BITS = 10;
 
-        private int place;
+        int place;
         private int tailPlace;
         private int last;
         private int alike;
@@ -418,12 +411,15 @@ public final class SharedWire {
             if (place == 0 && level == 1) {
                 return FORM_FAULT;
             }
-            if (isStuffedNext()) {
-                return takeStuffed(level);
+            boolean isStuffed = isStuffedNext();
+            if (isStuffed && level == last) {
+                return STUFF_FAULT;
             }
             countAlike(level);
-            takeFrameBit(level);
-            place++;
+            if (!isStuffed) {
+                takeFrameBit(level);
+                place++;
+            }
             return NO_FAULT;
         }
 
@@ -453,13 +449,9 @@ public final class SharedWire {
             return check == checkRead;
         }
 
+        /** Holds up to the end of the check alone, behind which nothing is stuffed in. */
         boolean isStuffedNext() {
-            return alike >= ALIKE_LIMIT && !isBehindCheck();
-        }
-
-        /** How many bits, the next one not counted, come before the number of bytes. */
-        int bitsBeforeNumber(boolean frameIsLong) {
-            return Frame.numberPlace(frameIsLong) - place - 1;
+            return alike >= ALIKE_LIMIT;
         }
 
         void copyTo(Frame frame) {
@@ -480,14 +472,6 @@ public final class SharedWire {
                 return CHECK_FAULT;
             }
             return level == 1 ? NO_FAULT : FORM_FAULT;
-        }
-
-        private int takeStuffed(int level) {
-            if (level == last) {
-                return STUFF_FAULT;
-            }
-            countAlike(level);
-            return NO_FAULT;
         }
 
         private void countAlike(int level) {
@@ -522,7 +506,7 @@ public final class SharedWire {
             boolean inLow = place >= Frame.LOW_PLACE && place < Frame.LOW_PLACE + Frame.LOW_BITS;
             if (place == Frame.LONG_MARK_PLACE) {
                 isLong = level == 1;
-                numberPlace = Frame.numberPlace(isLong);
+                numberPlace = isLong ? Frame.LONG_NUMBER_PLACE : Frame.SHORT_NUMBER_PLACE;
             } else if (place <= Frame.HIGH_BITS || isLong && inLow) {
                 identifier = identifier << 1 | level;
             }
@@ -563,6 +547,7 @@ public final class SharedWire {
         private final Frame[] wanted;
         private final Reader reader;
         private int sendingSlot;
+        private int sent;
 
         Node() {
             lastReceived = new Frame();
@@ -607,26 +592,26 @@ public final class SharedWire {
             }
         }
 
-        int sends() {
+        int send() {
+            sent = 1;
             if (role == SENDING) {
-                return reader.nextOf(wanted[sendingSlot]);
+                sent = reader.nextOf(wanted[sendingSlot]);
+            } else if (role == READING && reader.isAtAnswer() && reader.isCheckRight()) {
+                sent = 0;
             }
-            if (role == READING && reader.isAtAnswer() && reader.isCheckRight()) {
-                return 0;
-            }
-            return 1;
+            return sent;
         }
 
         void see(int level) {
             fault = NO_FAULT;
             if (role == SENDING) {
-                fault = seeAsSender(level);
-            } else if (role == READING) {
-                fault = reader.take(level);
+                compareWithSent(level);
             } else if (role == IDLE && level == 0) {
                 role = READING;
                 reader.begin();
-                reader.take(level);
+            }
+            if (isAtWork() && fault == NO_FAULT) {
+                fault = reader.take(level);
             }
         }
 
@@ -669,23 +654,21 @@ public final class SharedWire {
             return first;
         }
 
-        private int seeAsSender(int level) {
+        private void compareWithSent(int level) {
             if (reader.isAtAnswer()) {
-                if (level == 1) {
-                    return ANSWER_FAULT;
+                fault = level == 1 ? ANSWER_FAULT : NO_FAULT;
+            } else if (level != sent) {
+                if (sent == 1 && mayLose()) {
+                    role = READING;
+                } else {
+                    fault = LEVEL_FAULT;
                 }
-            } else if (level != sends()) {
-                if (!losesBy(level)) {
-                    return LEVEL_FAULT;
-                }
-                role = READING;
             }
-            return reader.take(level);
         }
 
-        private boolean losesBy(int level) {
-            return level == 0 && !reader.isStuffedNext()
-                    && reader.bitsBeforeNumber(wanted[sendingSlot].isLong) > LOSING_BITS;
+        private boolean mayLose() {
+            int bitsToCome = wanted[sendingSlot].numberPlace - reader.place - 1;
+            return bitsToCome > LOSING_BITS && !reader.isStuffedNext();
         }
 
         private void countFault() {
