@@ -51,6 +51,10 @@ final class Bits {
         return bit == '0' ? '1' : '0';
     }
 
+    static String flipped(String bits, int at) {
+        return bits.substring(0, at) + other(bits.charAt(at)) + bits.substring(at + 1);
+    }
+
     static String stuffed(String bits) {
         String out = "";
         for (int i = 0; i < bits.length(); i++) {

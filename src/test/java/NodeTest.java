@@ -79,22 +79,18 @@ public final class NodeTest {
     private static void faultsOfReaders() {
         String bits = Bits.onWire(false, 0b10101010101, 0x33, 1);
         int end = bits.length() - 8;
-        fed("wrong delimiter", flipped(bits, end - 2), end - 2, 3);
-        fed("wrong end of the answer", flipped(bits, end), end, 3);
-        fed("wrong first of seven", flipped(bits, end + 1), end + 1, 3);
-        fed("wrong last of seven", flipped(bits, end + 7), end + 7, 3);
+        fed("wrong delimiter", Bits.flipped(bits, end - 2), end - 2, 3);
+        fed("wrong end of the answer", Bits.flipped(bits, end), end, 3);
+        fed("wrong first of seven", Bits.flipped(bits, end + 1), end + 1, 3);
+        fed("wrong last of seven", Bits.flipped(bits, end + 7), end + 7, 3);
         String wrongCheck = Bits.head(false, 0b10101010101) + Bits.number(1, 4) + Bits.bytes(0x33, 1);
         String check = Bits.check(wrongCheck);
         String other = check.substring(0, 14) + Bits.other(check.charAt(14));
         String all = Bits.stuffed(wrongCheck + other) + "1" + "1" + "1" + "1111111";
         fed("wrong check, end 1", all, all.length() - 8, 2);
-        fed("wrong check, end 0", flipped(all, all.length() - 8), all.length() - 8, 2);
+        fed("wrong check, end 0", Bits.flipped(all, all.length() - 8), all.length() - 8, 2);
         fed("five alike and a sixth", "0" + "111110" + "000011", 10, 0);
         fed("stuffed in wrong", "0" + "111111", 6, 1);
-    }
-
-    private static String flipped(String bits, int at) {
-        return bits.substring(0, at) + Bits.other(bits.charAt(at)) + bits.substring(at + 1);
     }
 
     private static void fed(String what, String bits, int faultAt, int fault) {

@@ -21,20 +21,16 @@ public final class ReadTest {
         DUE.equal(what + ", length", wire.wipe(), bits.length());
     }
 
-    private static String flipped(String bits, int at) {
-        return bits.substring(0, at) + Bits.other(bits.charAt(at)) + bits.substring(at + 1);
-    }
-
     private static void faultsOfForm() {
         String bits = Bits.onWire(false, 5, 0xa5, 1);
         int delimiter = bits.length() - 10;
         reads("right", bits, 0);
-        reads("first bit 1", flipped(bits, 0), 3000);
+        reads("first bit 1", Bits.flipped(bits, 0), 3000);
         reads("only a 1", "1", 3000);
-        reads("delimiter 0", flipped(bits, delimiter), 3000 + delimiter);
-        reads("answer 0", flipped(bits, delimiter + 1), 0);
+        reads("delimiter 0", Bits.flipped(bits, delimiter), 3000 + delimiter);
+        reads("answer 0", Bits.flipped(bits, delimiter + 1), 0);
         for (int i = 2; i < 10; i++) {
-            reads("tail bit " + i + " 0", flipped(bits, delimiter + i), 3000 + delimiter + i);
+            reads("tail bit " + i + " 0", Bits.flipped(bits, delimiter + i), 3000 + delimiter + i);
         }
     }
 
@@ -42,7 +38,7 @@ public final class ReadTest {
         String before = Bits.head(true, 123456) + Bits.number(2, 4) + Bits.bytes(0x1234, 2);
         String check = Bits.check(before);
         for (int i = 0; i < 15; i++) {
-            String stuffed = Bits.stuffed(before + flipped(check, i));
+            String stuffed = Bits.stuffed(before + Bits.flipped(check, i));
             int end = stuffed.length() + 2;
             reads("check bit " + i, stuffed + "111" + "1111111", 2000 + end);
             reads("check bit " + i + ", end 0", stuffed + "110" + "1111111", 2000 + end);
@@ -104,8 +100,8 @@ public final class ReadTest {
             reads("long " + i, Bits.onWire(head + "0001" + "01010101", '0'), 0);
         }
         for (int number = 0; number < 16; number++) {
-            String before = Bits.head(false, 7) + Bits.number(number, 4) + Bits.bytes(0x7766554433221100L, Math.min(8, number));
-            reads("number " + number, Bits.onWire(before, '1'), 0);
+            String data = Bits.bytes(0x7766554433221100L, Math.min(8, number));
+            reads("number " + number, Bits.onWire(Bits.head(false, 7) + Bits.number(number, 4) + data, '1'), 0);
         }
     }
 

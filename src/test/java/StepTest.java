@@ -102,7 +102,7 @@ public final class StepTest {
         DUE.equal("as sender", wire.node(0, Play.ROLE), 3);
     }
 
-    /** A lone sender is disturbed at each place in turn: it loses where it sent 1 up to the last bit of the identifier. */
+    /** A sender is disturbed at each place in turn: it loses where it sent 1, up to the identifier's end. */
     private static void losesOnlyInTheIdentifier() {
         int[][] frames = {{0, 0b11111011111}, {1, 0x1f7dbeef}, {0, 0}, {1, 0}};
         for (int[] frame : frames) {
