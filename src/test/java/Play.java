@@ -1,3 +1,5 @@
+import java.util.NoSuchElementException;
+
 /** What several tests do with a wire. */
 final class Play {
     static final int ROLE = 0;
@@ -29,6 +31,36 @@ final class Play {
         return text.toString();
     }
 
+    /** All that can be asked about the wire and its nodes, as one text. */
+    static String wholeWire(SharedWire wire) {
+        StringBuilder text = new StringBuilder("wire " + wire.wire());
+        for (int node = 0; node < 4; node++) {
+            text.append(" | ").append(told(wire, node)).append(" / ").append(frameOrNone(wire, node));
+        }
+        return text.toString();
+    }
+
+    /** All bits of the tape, and what reading it answers. */
+    static String wholeTape(SharedWire wire) {
+        StringBuilder text = new StringBuilder();
+        try {
+            for (int i = 0; i <= 200; i++) {
+                text.append(wire.bit(i));
+            }
+        } catch (IndexOutOfBoundsException behindTheLast) {
+            text.append(" read ").append(wire.read());
+        }
+        return text.toString();
+    }
+
+    private static String frameOrNone(SharedWire wire, int node) {
+        try {
+            return frame(wire, node);
+        } catch (NoSuchElementException none) {
+            return "none";
+        }
+    }
+
     /** All that received(node, what) tells, as one text. */
     static String frame(SharedWire wire, int node) {
         StringBuilder text = new StringBuilder();
@@ -36,6 +68,20 @@ final class Play {
             text.append(what == 0 ? "" : " ").append(wire.received(node, what));
         }
         return text.toString();
+    }
+
+    /** A wire where one node wants to send one frame. */
+    static SharedWire wanting(int node, boolean isLong, int identifier, long data, int n) {
+        SharedWire wire = new SharedWire();
+        wire.want(node, isLong, identifier, data, n);
+        return wire;
+    }
+
+    /** So many steps without disturbance, which may be none, or more than one call takes. */
+    static void pass(SharedWire wire, int steps) {
+        for (int left = steps; left > 0; left -= 200) {
+            wire.step(Math.min(left, 200), 0);
+        }
     }
 
     /** So often the node that wants to send sees its first bit wrong, and the wire comes to rest again. */

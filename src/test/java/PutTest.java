@@ -1,82 +1,101 @@
-/** Promises 9 to 12: put, bit, flip, wipe. */
+/** Promise 9. */
 public final class PutTest {
     private static final Due DUE = new Due();
 
     public static void main(String[] args) {
-        putsTheLowestFirst();
-        refusesWrongNumbers();
-        fillsUpTo200();
-        bitsAndFlips();
-        wipes();
+        comesBehindTheTape();
+        lowestFirst();
+        othersAreNotLookedAt();
+        numbersFrom1To64();
+        atMost200();
+        everyLengthAtTheLimit();
         DUE.end();
     }
 
-    private static void putsTheLowestFirst() {
+    private static SharedWire withBits(int bits) {
         SharedWire wire = new SharedWire();
-        DUE.equal("put(0b0110, 4)", wire.put(0b0110, 4), true);
-        DUE.equal("put(-1, 1)", wire.put(-1, 1), true);
-        DUE.equal("put(0xfe, 1)", wire.put(0xfe, 1), true);
-        DUE.equal("tape", Bits.tapeOf(wire, 6), "011010");
-        DUE.equal("put of 64", wire.put(Long.MIN_VALUE + 1, 64), true);
-        DUE.equal("64 more", Bits.tapeOf(wire, 70).substring(6), "1" + "0".repeat(62) + "1");
+        Bits.lay(wire, "01".repeat(100).substring(0, bits));
+        return wire;
     }
 
-    private static void refusesWrongNumbers() {
+    /** "n bits come behind the tape" */
+    private static void comesBehindTheTape() {
         SharedWire wire = new SharedWire();
-        wire.put(1, 2);
-        int[] wrong = {0, -1, 65, Integer.MAX_VALUE, Integer.MIN_VALUE, Integer.MAX_VALUE - 1};
-        for (int n : wrong) {
-            DUE.equal("put(-1, " + n + ")", wire.put(-1, n), false);
+        DUE.equal("the first", wire.put(0b0110, 4), true);
+        DUE.equal("one more", wire.put(1, 1), true);
+        DUE.equal("and one", wire.put(0, 1), true);
+        DUE.equal("tape", Play.wholeTape(wire), "011010" + " read 4006");
+        wire.want(0, false, 5, 0xa5, 1);
+        int length = wire.tape(0);
+        wire.put(0b01, 2);
+        DUE.equal("behind a frame", Bits.tapeOf(wire, length + 2), Bits.onWire(false, 5, 0xa5, 1) + "10");
+    }
+
+    /** "the lowest of w first" */
+    private static void lowestFirst() {
+        for (int i = 0; i < 64; i++) {
+            SharedWire wire = new SharedWire();
+            wire.put(1L << i, 64);
+            DUE.equal("bit " + i, Bits.tapeOf(wire, 64), "0".repeat(i) + "1" + "0".repeat(63 - i));
         }
-        DUE.equal("nothing changed", Bits.tapeOf(wire, 2), "10");
-        DUE.equal("length", wire.wipe(), 2);
     }
 
-    private static void fillsUpTo200() {
-        SharedWire wire = new SharedWire();
-        for (int i = 0; i < 3; i++) {
-            wire.put(0, 64);
+    /** "(others are not looked at)" */
+    private static void othersAreNotLookedAt() {
+        for (int n = 1; n < 64; n++) {
+            SharedWire zeros = new SharedWire();
+            SharedWire ones = new SharedWire();
+            zeros.put(-1L << n, n);
+            ones.put(-1L >>> 64 - n, n);
+            DUE.equal(n + " of 0", Bits.tapeOf(zeros, n), "0".repeat(n));
+            DUE.equal(n + " of 1", Bits.tapeOf(ones, n), "1".repeat(n));
+            DUE.equal(n + ", no more", zeros.wipe(), n);
         }
-        DUE.equal("201", wire.put(-1, 9), false);
-        DUE.equal("200", wire.put(-1, 8), true);
-        DUE.equal("one more", wire.put(1, 1), false);
-        DUE.equal("last bit", wire.bit(199), 1);
-        DUE.equal("bit 191", wire.bit(191), 0);
-        DUE.refuses("bit(200)", IndexOutOfBoundsException.class, () -> wire.bit(200));
-        DUE.equal("read()", wire.read(), 1005);
-        DUE.equal("wipe()", wire.wipe(), 200);
     }
 
-    private static void bitsAndFlips() {
-        SharedWire wire = new SharedWire();
-        wire.put(0b101, 3);
-        wire.flip(0);
-        wire.flip(1);
-        DUE.equal("flipped", Bits.tapeOf(wire, 3), "011");
-        wire.flip(1);
-        wire.flip(2);
-        DUE.equal("flipped again", Bits.tapeOf(wire, 3), "000");
-        int[] wrong = {-1, 3, 199, 200, Integer.MAX_VALUE, Integer.MIN_VALUE};
-        for (int i : wrong) {
-            DUE.refuses("bit(" + i + ")", IndexOutOfBoundsException.class, () -> wire.bit(i));
-            DUE.refuses("flip(" + i + ")", IndexOutOfBoundsException.class, () -> flip(wire, i));
+    /** "False, changing nothing, when n is not 1 .. 64" */
+    private static void numbersFrom1To64() {
+        for (int before : new int[] {0, 1, 136, 200}) {
+            Twins twins = new Twins(DUE, () -> withBits(before));
+            for (int n : new int[] {0, -1, -64, 65, 66, Integer.MIN_VALUE, Integer.MAX_VALUE, Integer.MAX_VALUE - 199}) {
+                twins.answerFalse(n + " behind " + before, w -> w.put(-1, n));
+                twins.answerFalse(n + " of 0 behind " + before, w -> w.put(0, n));
+            }
         }
-        DUE.equal("nothing changed", Bits.tapeOf(wire, 3), "000");
+        for (int n : new int[] {1, 2, 63, 64}) {
+            SharedWire wire = new SharedWire();
+            DUE.equal("put of " + n, wire.put(-1, n), true);
+            DUE.equal("length " + n, wire.wipe(), n);
+        }
     }
 
-    private static long flip(SharedWire wire, int i) {
-        wire.flip(i);
-        return 0;
+    /** "or there would be more than 200" */
+    private static void atMost200() {
+        for (int n : new int[] {1, 2, 8, 63, 64}) {
+            for (int room = n; room <= n + 1; room++) {
+                SharedWire wire = withBits(200 - room);
+                DUE.equal(n + " into " + room, wire.put(-1, n), true);
+                DUE.equal(n + " into " + room + ", the last", wire.bit(200 - room + n - 1), 1);
+                DUE.equal(n + " into " + room + ", length", wire.wipe(), 200 - room + n);
+            }
+            int before = 200 - n + 1;
+            new Twins(DUE, () -> withBits(before)).answerFalse(n + " into one less", w -> w.put(-1, n));
+        }
+        SharedWire refused = withBits(199);
+        DUE.equal("two are too many", refused.put(3, 2), false);
+        DUE.equal("one is not", refused.put(3, 1), true);
+        DUE.equal("one more is", refused.put(3, 1), false);
+        refused.wipe();
+        DUE.equal("room again", refused.put(3, 64), true);
     }
 
-    private static void wipes() {
-        SharedWire wire = new SharedWire();
-        wire.put(-1, 7);
-        DUE.equal("wipe()", wire.wipe(), 7);
-        DUE.equal("wipe() again", wire.wipe(), 0);
-        DUE.refuses("bit(0)", IndexOutOfBoundsException.class, () -> wire.bit(0));
-        DUE.refuses("flip(0)", IndexOutOfBoundsException.class, () -> flip(wire, 0));
-        wire.put(0, 2);
-        DUE.equal("what comes then", Bits.tapeOf(wire, 2), "00");
+    private static void everyLengthAtTheLimit() {
+        for (int before = 136; before <= 200; before++) {
+            for (int n = 1; n <= 64; n++) {
+                SharedWire wire = withBits(before);
+                DUE.equal(n + " behind " + before, wire.put(0, n), before + n <= 200);
+                DUE.equal(n + " behind " + before + ", length", wire.wipe(), before + n <= 200 ? before + n : before);
+            }
+        }
     }
 }

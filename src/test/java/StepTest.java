@@ -1,234 +1,133 @@
-/** Promise 3, and what nodes do in a step. */
+/** Promise 3. What happens in a step stands in RestTest, BusyTest, FaultTest and EndTest. */
 public final class StepTest {
     private static final Due DUE = new Due();
 
     public static void main(String[] args) {
-        refusesWrongArguments();
-        showsTheFrameOnTheWire();
-        disturbsOnlyTheFirstStep();
-        lowestIdentifierGoesOn();
-        longLosesToShort();
-        loserReadsOn();
-        losesOnlyInTheIdentifier();
-        sameFramesGoTogether();
-        differentDataIsAFault();
-        senderSeesWrongFirstBit();
-        nobodyAnswers();
-        brokenAndPause();
-        faultAtTheEndUndoesAll();
-        lateReader();
-        offNodeSeesNothing();
+        refusesOtherNumbersOfSteps();
+        refusesOtherNodes();
+        takesSoManySteps();
+        answersTheLastLevel();
+        disturbsWhoseBitIsSet();
+        disturbsInTheFirstStepAlone();
+        noUseWhileBrokenOrPause();
+        noUseForOffNodes();
         DUE.end();
     }
 
-    private static void refusesWrongArguments() {
-        SharedWire wire = new SharedWire();
-        wire.want(0, false, 0, 0, 0);
-        int[][] wrong = {{0, 0}, {-1, 0}, {201, 0}, {1, -1}, {1, 16}, {0, 16}, {Integer.MAX_VALUE, 0},
-            {Integer.MIN_VALUE, 0}, {1, Integer.MIN_VALUE}, {1, Integer.MAX_VALUE}};
-        for (int[] w : wrong) {
-            DUE.refuses("step(" + w[0] + ", " + w[1] + ")", IllegalArgumentException.class,
-                    () -> wire.step(w[0], w[1]));
-        }
-        DUE.equal("nothing happened", wire.wire(), 0);
-        DUE.equal("one step", wire.step(1, 0), 0);
-        DUE.equal("200 steps", wire.step(200, 0), 1);
-        DUE.equal("all disturbed", new SharedWire().step(1, 15), 1);
+    /** Frames for more than 200 steps. */
+    private static SharedWire busy() {
+        SharedWire wire = Play.wanting(0, true, 5, 0x0123456789abcdefL, 8);
+        wire.want(1, false, 5, -1, 8);
+        wire.want(2, false, 6, 0, 8);
+        return wire;
     }
 
-    private static void showsTheFrameOnTheWire() {
-        for (int isLong = 0; isLong < 2; isLong++) {
+    /** "So many steps (1 .. 200)" */
+    private static void refusesOtherNumbersOfSteps() {
+        Twins twins = new Twins(DUE, StepTest::busy);
+        for (int steps : new int[] {0, -1, 201, 202, Integer.MIN_VALUE, Integer.MAX_VALUE}) {
+            twins.refuse("step(" + steps + ", 0)", IllegalArgumentException.class, w -> w.step(steps, 0));
+            twins.refuse("step(" + steps + ", 15)", IllegalArgumentException.class, w -> w.step(steps, 15));
+        }
+    }
+
+    /** "disturbed (0 .. 15 ...)" */
+    private static void refusesOtherNodes() {
+        Twins twins = new Twins(DUE, StepTest::busy);
+        for (int disturbed : new int[] {-1, 16, 17, 32, Integer.MIN_VALUE, Integer.MAX_VALUE}) {
+            twins.refuse("step(1, " + disturbed + ")", IllegalArgumentException.class, w -> w.step(1, disturbed));
+            twins.refuse("step(200, " + disturbed + ")", IllegalArgumentException.class, w -> w.step(200, disturbed));
+        }
+    }
+
+    private static void takesSoManySteps() {
+        for (int steps : new int[] {1, 2, 3, 100, 199, 200}) {
+            SharedWire atOnce = busy();
+            SharedWire oneByOne = busy();
+            int level = atOnce.step(steps, 0);
+            String levels = Play.levels(oneByOne, steps);
+            DUE.equal(steps + " steps, level", level, levels.charAt(steps - 1) - '0');
+            DUE.equal(steps + " steps", Play.wholeWire(atOnce), Play.wholeWire(oneByOne));
+            DUE.equal(steps + " steps, then", Play.levels(atOnce, 20), Play.levels(oneByOne, 20));
+        }
+    }
+
+    /** "the level in the last one" */
+    private static void answersTheLastLevel() {
+        String bits = Bits.onWire(false, 0b10110011101, 0x5a, 1);
+        int answer = bits.length() - 9;
+        for (int steps = 1; steps <= bits.length(); steps++) {
+            SharedWire wire = Play.wanting(0, false, 0b10110011101, 0x5a, 1);
+            int due = steps - 1 == answer ? 0 : bits.charAt(steps - 1) - '0';
+            DUE.equal("level " + steps, wire.step(steps, 0), due);
+        }
+    }
+
+    /** "those nodes are disturbed whose bit (1 << node) is 1 in disturbed" */
+    private static void disturbsWhoseBitIsSet() {
+        for (int disturbed = 0; disturbed <= 15; disturbed++) {
             SharedWire wire = new SharedWire();
-            wire.want(3, isLong == 1, 31, -256, 8);
-            String bits = Bits.onWire(isLong == 1, 31, -256, 8);
-            int answer = bits.length() - 9;
-            String want = bits.substring(0, answer) + "0" + bits.substring(answer + 1) + "111" + "1";
-            DUE.equal("levels, long " + isLong, Play.levels(wire, bits.length() + 4), want);
-            DUE.equal("sender", Play.told(wire, 3), "1 0 0 0 1 0 0");
-            DUE.equal("reader", Play.told(wire, 0), "1 0 0 0 0 1 0");
-        }
-    }
-
-    private static void disturbsOnlyTheFirstStep() {
-        SharedWire wire = new SharedWire();
-        DUE.equal("the level is what it is", wire.step(2, 4), 1);
-        DUE.equal("node 2 read 0 1", wire.node(2, Play.ROLE), 2);
-        wire.step(4, 0);
-        DUE.equal("0 11111 so far", wire.wire(), 1);
-        wire.step(1, 0);
-        DUE.equal("a sixth 1 is wrong", Play.told(wire, 2), "1 0 1 0 0 0 1");
-    }
-
-    private static void lowestIdentifierGoesOn() {
-        SharedWire wire = new SharedWire();
-        wire.want(0, false, 0b10101010101, 0, 1);
-        wire.want(1, false, 0b10101010100, 1, 1);
-        wire.want(2, false, 0b10101110100, 2, 1);
-        wire.step(6, 0);
-        DUE.equal("before they differ", wire.node(2, Play.ROLE), 3);
-        wire.step(1, 0);
-        DUE.equal("2 loses", Play.told(wire, 2), "2 0 0 1 0 0 0");
-        wire.step(4, 0);
-        DUE.equal("0 goes on", wire.node(0, Play.ROLE), 3);
-        wire.step(1, 0);
-        DUE.equal("0 loses with the last bit", Play.told(wire, 0), "2 0 0 1 0 0 0");
-        DUE.equal("1 goes on", Play.told(wire, 1), "3 0 0 1 0 0 0");
-    }
-
-    private static void longLosesToShort() {
-        SharedWire wire = new SharedWire();
-        wire.want(0, true, 0b10101010101 << 18, 5, 1);
-        wire.want(1, false, 0b10101010101, 6, 1);
-        wire.step(12, 0);
-        DUE.equal("long goes on", wire.node(0, Play.ROLE), 3);
-        wire.step(1, 0);
-        DUE.equal("long loses", wire.node(0, Play.ROLE), 2);
-        wire.step(Bits.onWire(false, 0b10101010101, 6, 1).length() - 13, 0);
-        DUE.equal("long received short", Play.frame(wire, 0), "1365 0 1 6");
-        wire.step(3 + Bits.onWire(true, 0b10101010101 << 18, 5, 1).length(), 0);
-        DUE.equal("short received long", Play.frame(wire, 1), (0b10101010101 << 18) + " 1 1 5");
-    }
-
-    private static void loserReadsOn() {
-        SharedWire wire = new SharedWire();
-        wire.want(0, true, 0x15555555, 3, 2);
-        wire.want(1, true, 0x15555554, 0x1234, 2);
-        int length = wire.tape(1);
-        wire.step(length, 0);
-        DUE.equal("the loser received", Play.frame(wire, 0), 0x15555554 + " 1 2 " + 0x1234);
-        DUE.equal("and counts nothing", Play.told(wire, 0), "1 0 0 1 0 1 0");
-        wire.step(3, 0);
-        DUE.equal("then its own begins", wire.step(1, 0), 0);
-        DUE.equal("as sender", wire.node(0, Play.ROLE), 3);
-    }
-
-    /** A sender is disturbed at each place in turn: it loses where it sent 1, up to the identifier's end. */
-    private static void losesOnlyInTheIdentifier() {
-        int[][] frames = {{0, 0b11111011111}, {1, 0x1f7dbeef}, {0, 0}, {1, 0}};
-        for (int[] frame : frames) {
-            boolean isLong = frame[0] == 1;
-            String before = Bits.head(isLong, frame[1]);
-            String identifier = before.substring(0, isLong ? 32 : 12);
-            String bits = Bits.onWire(isLong, frame[1], 0x5a, 1);
-            for (int at = 0; at < bits.length(); at++) {
-                boolean stuffed = isStuffed(bits, at, identifier.length());
-                boolean inIdentifier = Bits.stuffed(identifier).length() > at && at > 0;
-                int due = at == bits.length() - 9 ? 5 : bits.charAt(at) == '1' && !stuffed && inIdentifier ? 0 : 4;
-                SharedWire wire = new SharedWire();
-                wire.want(0, isLong, frame[1], 0x5a, 1);
-                if (at > 0) {
-                    wire.step(at, 0);
-                }
-                wire.step(1, 1);
-                String what = "frame " + frame[1] + " disturbed at " + at;
-                DUE.equal(what, Play.told(wire, 0), due == 0 ? "2 0 0 1 0 0 0" : "1 8 0 1 0 0 " + due);
-                DUE.equal(what + ", wire", wire.wire(), due == 0 ? 1 : 2);
+            DUE.equal("the level itself, " + disturbed, wire.step(1, disturbed), 1);
+            for (int node = 0; node < 4; node++) {
+                boolean sawZero = (disturbed >> node & 1) == 1;
+                DUE.equal(disturbed + " disturbed, node " + node, wire.node(node, Play.ROLE), sawZero ? 2 : 1);
             }
         }
     }
 
-    /** Whether the bit at this index, not behind so many plain bits, follows five alike. */
-    private static boolean isStuffed(String bits, int at, int plainBits) {
-        return at >= 5 && at < plainBits + plainBits / 4 && Bits.endsAlike(bits.substring(0, at));
-    }
-
-    private static void sameFramesGoTogether() {
+    /** "in the first of which" */
+    private static void disturbsInTheFirstStepAlone() {
         SharedWire wire = new SharedWire();
-        wire.want(0, true, 99, 7, 1);
-        wire.want(2, true, 99, 7, 1);
-        wire.step(wire.tape(0), 0);
-        DUE.equal("0 sent", Play.told(wire, 0), "1 0 0 0 1 0 0");
-        DUE.equal("2 sent", Play.told(wire, 2), "1 0 0 0 1 0 0");
-        DUE.equal("1 received one", Play.told(wire, 1), "1 0 0 0 0 1 0");
-    }
-
-    private static void differentDataIsAFault() {
-        SharedWire wire = new SharedWire();
-        wire.want(0, false, 0b10101010101, 0xff, 1);
-        wire.want(1, false, 0b10101010101, 0x7f, 1);
-        wire.step(19, 0);
-        DUE.equal("both send", wire.node(0, Play.ROLE) + wire.node(1, Play.ROLE), 6);
-        int steps = 19;
-        while (wire.wire() == 1 && steps < 40) {
-            wire.step(1, 0);
-            steps++;
+        wire.step(6, 4);
+        DUE.equal("0 11111", Play.told(wire, 2), "2 0 0 0 0 0 0");
+        wire.step(1, 0);
+        DUE.equal("and a sixth 1", Play.told(wire, 2), "1 0 1 0 0 0 1");
+        for (int steps = 2; steps <= 40; steps++) {
+            SharedWire atOnce = busy();
+            SharedWire inTwo = busy();
+            atOnce.step(12, 0);
+            inTwo.step(12, 0);
+            int level = atOnce.step(steps, 9);
+            inTwo.step(1, 9);
+            DUE.equal("level, " + steps, level, inTwo.step(steps - 1, 0));
+            DUE.equal("wire, " + steps, Play.wholeWire(atOnce), Play.wholeWire(inTwo));
         }
-        DUE.equal("who sent 1 finds it", Play.told(wire, 0), "1 8 0 1 0 0 4");
-        DUE.equal("who sent 0 does not", Play.told(wire, 1), "1 0 0 1 0 0 0");
-        DUE.equal("nor does a reader", Play.told(wire, 2), "1 0 0 0 0 0 0");
     }
 
-    private static void senderSeesWrongFirstBit() {
-        SharedWire wire = new SharedWire();
-        wire.want(1, false, 3, 0, 0);
-        DUE.equal("level", wire.step(1, 2), 0);
-        DUE.equal("fault 4", Play.told(wire, 1), "1 8 0 1 0 0 4");
-        DUE.equal("the others are no readers", wire.node(0, Play.ROLE), 1);
-        DUE.equal("broken", wire.wire(), 2);
-    }
-
-    private static void nobodyAnswers() {
-        SharedWire wire = new SharedWire();
-        for (int node = 0; node < 4; node++) {
-            wire.want(node, false, 0b10101010101, 1, 1);
+    /** "(... of no use where they see nothing)": while it is broken, and in a pause, but in no step besides */
+    private static void noUseWhileBrokenOrPause() {
+        for (int at = 0; at <= 18; at++) {
+            SharedWire disturbed = broken(at);
+            SharedWire quiet = broken(at);
+            int level = disturbed.step(1, 15);
+            DUE.equal("level of step " + at, level, quiet.step(1, 0));
+            boolean same = Play.wholeWire(disturbed).equals(Play.wholeWire(quiet));
+            DUE.equal("no use in step " + at, same, at < 17);
         }
-        int answer = wire.tape(0) - 9;
-        wire.step(answer, 0);
-        DUE.equal("no answer", wire.step(1, 4), 1);
-        DUE.equal("fault 5", Play.told(wire, 0), "1 8 0 1 0 0 5");
-        DUE.equal("one saw an answer", Play.told(wire, 2), "1 0 0 1 0 0 0");
     }
 
-    private static void brokenAndPause() {
-        SharedWire wire = new SharedWire();
-        wire.want(0, false, 3, 0, 0);
+    /** So many steps behind a fault. */
+    private static SharedWire broken(int steps) {
+        SharedWire wire = Play.wanting(0, false, 3, 0, 0);
         wire.step(1, 1);
-        StringBuilder levels = new StringBuilder();
-        StringBuilder states = new StringBuilder();
-        for (int i = 0; i < 18; i++) {
-            states.append(wire.wire());
-            levels.append(wire.step(1, i == 17 ? 0 : 15));
+        Play.pass(wire, steps);
+        return wire;
+    }
+
+    private static void noUseForOffNodes() {
+        SharedWire atRest = Play.withNodeOff(0);
+        String before = Play.wholeWire(atRest);
+        DUE.equal("level at rest", atRest.step(1, 1), 1);
+        DUE.equal("at rest", Play.wholeWire(atRest), before);
+        SharedWire disturbed = Play.withNodeOff(0);
+        SharedWire quiet = Play.withNodeOff(0);
+        disturbed.want(1, false, 8, 1, 1);
+        quiet.want(1, false, 8, 1, 1);
+        for (int i = 0; i < 60; i++) {
+            DUE.equal("level " + i, disturbed.step(1, 1), quiet.step(1, 0));
         }
-        DUE.equal("levels", levels.toString(), "000000" + "11111111" + "111" + "0");
-        DUE.equal("states", states.toString(), "22222222222222" + "333" + "0");
-        DUE.equal("it begins again", Play.told(wire, 0), "3 8 0 1 0 0 4");
-    }
-
-    private static void faultAtTheEndUndoesAll() {
-        SharedWire wire = new SharedWire();
-        wire.want(0, false, 3, 0, 0);
-        int length = wire.tape(0);
-        wire.step(length - 1, 0);
-        DUE.equal("last step", wire.step(1, 4), 1);
-        DUE.equal("not sent", Play.told(wire, 0), "1 0 0 1 0 0 0");
-        DUE.equal("not received", Play.told(wire, 1), "1 0 0 0 0 0 0");
-        DUE.equal("fault 3", Play.told(wire, 2), "1 0 1 0 0 0 3");
-        wire.step(17 + length, 0);
-        DUE.equal("sent then", Play.told(wire, 0), "1 0 0 0 1 0 0");
-        DUE.equal("one less", Play.told(wire, 2), "1 0 0 0 0 1 3");
-    }
-
-    /** Who missed the first bit reads from the next 0 that it sees, and finds its own faults. */
-    private static void lateReader() {
-        SharedWire wire = new SharedWire();
-        wire.want(0, false, 0b11111011111, 0, 0);
-        wire.step(1, 8);
-        DUE.equal("3 missed it", wire.node(3, Play.ROLE), 1);
-        wire.step(5, 0);
-        DUE.equal("3 sees 1s", wire.node(3, Play.ROLE), 1);
-        wire.step(1, 0);
-        DUE.equal("3 reads the 0 stuffed in", wire.node(3, Play.ROLE), 2);
-    }
-
-    private static void offNodeSeesNothing() {
-        SharedWire wire = Play.withNodeOff(0);
-        DUE.equal("rest", wire.step(1, 1), 1);
-        DUE.equal("stays rest", wire.wire(), 0);
-        wire.want(1, false, 8, 1, 1);
-        wire.step(1, 0);
-        DUE.equal("off is off", wire.node(0, Play.ROLE), 0);
-        wire.step(Bits.onWire(false, 8, 1, 1).length() - 1, 0);
-        DUE.equal("received nothing", wire.node(0, Play.RECEIVED), 0);
-        DUE.equal("others did", wire.node(2, Play.RECEIVED), 1);
+        DUE.equal("busy", Play.wholeWire(disturbed), Play.wholeWire(quiet));
+        DUE.equal("received by who is on", disturbed.node(2, Play.RECEIVED), 1);
+        DUE.equal("not by who is off", disturbed.node(0, Play.RECEIVED), 0);
     }
 }

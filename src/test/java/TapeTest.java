@@ -1,36 +1,50 @@
 import java.util.NoSuchElementException;
 
-/** Promise 8. */
+/** Promise 8. Frames written out in full stand in FrameTest. */
 public final class TapeTest {
     private static final Due DUE = new Due();
 
     public static void main(String[] args) {
-        refusesInOrder();
-        writtenOut();
+        refusesNoNode();
+        refusesWhenItOffersNone();
         manyFrames();
-        replacesTheTape();
-        offNodeOffers();
-        senderOffersWhatItSends();
+        longestFrame();
+        whateverItHad();
+        onOrOff();
+        changesNothingButTheTape();
         DUE.end();
     }
 
-    private static void refusesInOrder() {
-        SharedWire wire = new SharedWire();
-        wire.put(5, 3);
-        DUE.refuses("tape(4)", IndexOutOfBoundsException.class, () -> wire.tape(4));
-        DUE.refuses("tape(-1)", IndexOutOfBoundsException.class, () -> wire.tape(-1));
-        DUE.refuses("tape(0)", NoSuchElementException.class, () -> wire.tape(0));
-        DUE.equal("the tape is as it was", Bits.tapeOf(wire, 3), "101");
-        DUE.equal("its length too", wire.wipe(), 3);
+    /** Node 0 wants one, the others none, and the tape is full. */
+    private static SharedWire withFullTape() {
+        SharedWire wire = Play.wanting(0, false, 5, 0xa5, 1);
+        for (int i = 0; i < 4; i++) {
+            wire.put(0x2d5a5a5a5a5a5L, 50);
+        }
+        return wire;
     }
 
-    /** Frames whose bits stand here in full, so that nothing is taken from the tests' own maker of frames. */
-    private static void writtenOut() {
-        SharedWire wire = new SharedWire();
-        wire.want(0, false, 0, 0, 0);
-        DUE.equal("all 0", Bits.tapeOf(wire, wire.tape(0)),
-                "00000" + "1" + "00000" + "1" + "00000" + "1" + "0000" + "0" + "1"
-                        + "00000" + "1" + "00000" + "1" + "0000" + "1" + "1" + "1" + "1111111");
+    private static void refusesNoNode() {
+        Twins twins = new Twins(DUE, TapeTest::withFullTape);
+        for (int node : new int[] {-1, 4, Integer.MIN_VALUE, Integer.MAX_VALUE}) {
+            twins.refuse("tape(" + node + ")", IndexOutOfBoundsException.class, w -> w.tape(node));
+        }
+    }
+
+    /** "NoSuchElementException when it offers none.": none ever, or none any more, up to the last 1 */
+    private static void refusesWhenItOffersNone() {
+        Twins twins = new Twins(DUE, TapeTest::withFullTape);
+        for (int node = 1; node < 4; node++) {
+            int asked = node;
+            twins.refuse("tape(" + node + ")", NoSuchElementException.class, w -> w.tape(asked));
+        }
+        SharedWire wire = Play.wanting(0, false, 5, 0xa5, 1);
+        int length = wire.tape(0);
+        wire.step(length - 1, 0);
+        DUE.equal("before the last 1", wire.tape(0), length);
+        wire.step(1, 0);
+        DUE.refuses("behind it", NoSuchElementException.class, () -> wire.tape(0));
+        DUE.equal("the tape is as it was", wire.wipe(), length);
     }
 
     private static void manyFrames() {
@@ -50,8 +64,7 @@ public final class TapeTest {
     }
 
     private static void frame(boolean isLong, int identifier, long data, int n) {
-        SharedWire wire = new SharedWire();
-        wire.want(1, isLong, identifier, data, n);
+        SharedWire wire = Play.wanting(1, isLong, identifier, data, n);
         String want = Bits.onWire(isLong, identifier, data, n);
         String what = "tape of " + (isLong ? "long " : "short ") + identifier + ", " + n + " bytes of " + data;
         int length = wire.tape(1);
@@ -61,31 +74,58 @@ public final class TapeTest {
         DUE.equal(what + ": wipe()", wire.wipe(), length);
     }
 
-    private static void replacesTheTape() {
-        SharedWire wire = new SharedWire();
-        for (int i = 0; i < 4; i++) {
-            wire.put(-1, 50);
+    /** As much as possible of it is stuffed: on the wire it has far more bits than its 118. */
+    private static void longestFrame() {
+        SharedWire wire = Play.wanting(0, true, 0, 0, 8);
+        String due = Bits.onWire(true, 0, 0, 8);
+        DUE.equal("length", wire.tape(0), due.length());
+        DUE.equal("bits", Bits.tapeOf(wire, due.length()), due);
+        wire.step(due.length(), 0);
+        DUE.equal("received", Play.frame(wire, 1), "0 1 8 0");
+    }
+
+    /** "The tape (whatever it had) becomes ...": it had none, one bit, a longer frame, or 200 */
+    private static void whateverItHad() {
+        String due = Bits.onWire(false, 5, 0xa5, 1);
+        for (int bits : new int[] {0, 1, 54, 55, 56, 157, 199, 200}) {
+            SharedWire wire = Play.wanting(0, false, 5, 0xa5, 1);
+            Bits.lay(wire, "0".repeat(bits));
+            DUE.equal(bits + ": length", wire.tape(0), due.length());
+            DUE.equal(bits + ": bits", Bits.tapeOf(wire, due.length()), due);
+            DUE.refuses(bits + ": the first behind", IndexOutOfBoundsException.class, () -> wire.bit(due.length()));
+            DUE.equal(bits + ": put behind", wire.put(0, 1), true);
+            DUE.equal(bits + ": read", wire.read(), 5000 + due.length());
         }
-        wire.want(0, false, 5, 0xa5, 1);
-        DUE.equal("tape(0)", wire.tape(0), 55);
-        DUE.refuses("bit(55)", IndexOutOfBoundsException.class, () -> wire.bit(55));
-        DUE.equal("read()", wire.read(), 0);
-        DUE.equal("the wire is as it was", wire.wire(), 0);
-        DUE.equal("the node too", Play.told(wire, 0), "1 0 0 1 0 0 0");
     }
 
-    private static void offNodeOffers() {
+    /** "of the frame that a node, on or off, offers" */
+    private static void onOrOff() {
         SharedWire wire = Play.withNodeOff(2);
-        DUE.equal("tape of an off node", Bits.tapeOf(wire, wire.tape(2)), Bits.onWire(false, 3, 0, 0));
+        String due = Bits.onWire(false, 3, 0, 0);
+        DUE.equal("off", wire.node(2, Play.ROLE) + ": " + Bits.tapeOf(wire, wire.tape(2)), "0: " + due);
+        wire.join(2);
+        DUE.equal("on", wire.node(2, Play.ROLE) + ": " + Bits.tapeOf(wire, wire.tape(2)), "1: " + due);
+        wire.step(1, 0);
+        DUE.equal("a sender", wire.node(2, Play.ROLE) + ": " + Bits.tapeOf(wire, wire.tape(2)), "3: " + due);
+        SharedWire reader = Play.wanting(1, false, 5, 0, 0);
+        reader.step(1, 0);
+        reader.want(0, false, 3, 0, 0);
+        DUE.equal("a reader", reader.node(0, Play.ROLE) + ": " + Bits.tapeOf(reader, reader.tape(0)), "2: " + due);
     }
 
-    private static void senderOffersWhatItSends() {
-        SharedWire wire = new SharedWire();
-        wire.want(0, false, 100, 0, 0);
-        wire.step(2, 0);
-        wire.want(0, false, 50, 0, 0);
-        DUE.equal("while it is sent", Bits.tapeOf(wire, wire.tape(0)), Bits.onWire(false, 100, 0, 0));
-        wire.step(60, 0);
-        DUE.equal("the next one then", Bits.tapeOf(wire, wire.tape(0)), Bits.onWire(false, 50, 0, 0));
+    private static void changesNothingButTheTape() {
+        for (int steps = 0; steps < 60; steps++) {
+            SharedWire laid = Play.wanting(0, false, 5, 0xa5, 1);
+            SharedWire other = Play.wanting(0, false, 5, 0xa5, 1);
+            laid.want(1, false, 6, 0xa5, 1);
+            other.want(1, false, 6, 0xa5, 1);
+            Play.pass(laid, steps);
+            Play.pass(other, steps);
+            laid.tape(1);
+            DUE.equal("after " + steps, Play.wholeWire(laid), Play.wholeWire(other));
+            laid.step(70, 0);
+            other.step(70, 0);
+            DUE.equal("later, after " + steps, Play.wholeWire(laid), Play.wholeWire(other));
+        }
     }
 }
