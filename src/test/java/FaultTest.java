@@ -102,7 +102,8 @@ public final class FaultTest {
             }
             wire.step(1, 4);
             int count = 256 - good;
-            DUE.equal("off with " + count, Play.told(wire, 2), (count > 255 ? 0 : 1) + " " + count + " 0 1 " + good + " 0 4");
+            int role = count > 255 ? 0 : 1;
+            DUE.equal("off with " + count, Play.told(wire, 2), role + " " + count + " 0 1 " + good + " 0 4");
             wire.step(17, 0);
             wire.step(1, 4);
             int next = count > 255 ? count : count + 8;

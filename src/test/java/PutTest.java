@@ -69,7 +69,7 @@ public final class PutTest {
         }
     }
 
-    /** "or there would be more than 200" */
+    /** "THE TAPE is a row of at most 200 bits."; "or there would be more than 200" */
     private static void atMost200() {
         for (int n : new int[] {1, 2, 8, 63, 64}) {
             for (int room = n; room <= n + 1; room++) {

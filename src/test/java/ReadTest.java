@@ -120,11 +120,14 @@ public final class ReadTest {
 
     private static void oneStuffedBehindTheCheckIsTooMuch() {
         String zeros = Bits.onWire(false, 9, 0, 0);
+        reads("a 1 behind 0 0 0 0 0", beforeDelimiter(zeros, "1"), 5000 + zeros.length());
         String ones = Bits.onWire(false, 23, 0, 0);
-        int delimiter = zeros.length() - 10;
-        reads("a 1 behind 0 0 0 0 0", zeros.substring(0, delimiter) + "1" + zeros.substring(delimiter), 5000 + zeros.length());
-        delimiter = ones.length() - 10;
-        reads("a 0 behind 1 1 1 1 1", ones.substring(0, delimiter) + "0" + ones.substring(delimiter), 3000 + delimiter);
+        reads("a 0 behind 1 1 1 1 1", beforeDelimiter(ones, "0"), 3000 + ones.length() - 10);
+    }
+
+    private static String beforeDelimiter(String bits, String more) {
+        int delimiter = bits.length() - 10;
+        return bits.substring(0, delimiter) + more + bits.substring(delimiter);
     }
 
     /** "4000 and its length (so 4000 for an empty one), if it ends too early" */
