@@ -37,7 +37,10 @@ public final class BusyTest {
         DUE.equal(what + ", wire", wire.wire(), due.equals(LOST) ? 1 : 2);
     }
 
-    /** "at the answer, that is right (if it sees 1 there, it is fault 5)" */
+    /**
+     * "a sender sends the next bit of its frame on the wire, 1 for the answer. If it sees another one: at the
+     * answer, that is right (if it sees 1 there, it is fault 5)"
+     */
     private static void answerIsOthers() {
         int answer = Bits.onWire(false, 5, 0x5a, 1).length() - 9;
         SharedWire sees0 = at(answer, 0, false, 5, 0x5a, 1);

@@ -12,6 +12,7 @@ public final class FaultTest {
         offAbove255();
         readersAreNeverOff();
         onlyWhoFoundOneIsOff();
+        brokenFromTheNextStep();
         brokenFor14Steps();
         pauseOf3Steps();
         zeroForSixSteps();
@@ -140,6 +141,19 @@ public final class FaultTest {
         return wire;
     }
 
+    /** "the wire is broken from the next step on": the level of the step itself is what the nodes send */
+    private static void brokenFromTheNextStep() {
+        SharedWire sentOne = Play.wanting(0, false, 5, 0xa5, 1);
+        sentOne.step(sentOne.tape(0) - 10, 0);
+        DUE.equal("busy before", sentOne.wire(), 1);
+        DUE.equal("the level where the fault is found", sentOne.step(1, 1), 1);
+        DUE.equal("broken behind", sentOne.wire(), 2);
+        DUE.equal("the level of the next step", sentOne.step(1, 0), 0);
+        SharedWire sentZero = Play.wanting(0, false, 5, 0xa5, 1);
+        DUE.equal("the level where the first bit is wrong", sentZero.step(1, 1), 0);
+        DUE.equal("six steps of 0 behind it", Play.levels(sentZero, 7), "0000001");
+    }
+
     /** "BROKEN for 14 steps (a pause comes behind them)" */
     private static void brokenFor14Steps() {
         for (int steps = 0; steps <= 15; steps++) {
@@ -165,7 +179,10 @@ public final class FaultTest {
         }
     }
 
-    /** "the level is 0 in the first six steps in which it is broken, and 1 in the others" */
+    /**
+     * "(... but as said while it is broken)": "the level is 0 in the first six steps in which it is broken,
+     * and 1 in the others"
+     */
     private static void zeroForSixSteps() {
         DUE.equal("levels", Play.levels(justBroken(), 18), "000000" + "11111111" + "111" + "0");
         for (int steps = 1; steps <= 17; steps++) {

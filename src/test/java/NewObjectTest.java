@@ -13,6 +13,7 @@ public final class NewObjectTest {
         DUE.end();
     }
 
+    /** "THE WIRE is REST (at first)" */
     private static void atRest() {
         SharedWire wire = new SharedWire();
         DUE.equal("wire()", wire.wire(), 0);

@@ -6,6 +6,7 @@ public final class NodeTest {
         refusesNoNode();
         refusesOtherWhat();
         role();
+        counts();
         numbersOfFrames();
         everyNodeForItself();
         lastFaultStays();
@@ -56,6 +57,17 @@ public final class NodeTest {
         DUE.equal("sender", wire.node(1, 0), 3);
         DUE.equal("reader", wire.node(2, 0), 2);
         DUE.equal("neither", wire.node(3, 0), 1);
+    }
+
+    /** "1 its count of sending, 2 of receiving" */
+    private static void counts() {
+        SharedWire wire = new SharedWire();
+        DUE.equal("neither", wire.node(1, 1) * 1000 + wire.node(1, 2), 0);
+        wire.step(24, 2);
+        DUE.equal("of receiving", wire.node(1, 1) * 1000 + wire.node(1, 2), 1);
+        wire.want(1, false, 3, 0, 0);
+        wire.step(1, 2);
+        DUE.equal("and of sending", wire.node(1, 1) * 1000 + wire.node(1, 2), 8001);
     }
 
     /** "3 how many frames it wants to send, 4 how many it sent, 5 how many it received" */
@@ -113,7 +125,10 @@ public final class NodeTest {
         DUE.equal("fault 5 behind it", wire.node(0, Play.FAULT), 5);
     }
 
-    /** One reader, fed by disturbance, finds each of its faults, and just at the bit where it is. */
+    /**
+     * "it reads what it sees, and may find a fault": fed by disturbance, one reader finds each of its faults,
+     * and just at the bit where it is.
+     */
     private static void faultsOfReaders() {
         String bits = Bits.onWire(false, 0b10101010101, 0x33, 1);
         int end = bits.length() - 8;

@@ -10,6 +10,8 @@ public final class ReadTest {
         everyBitStuffedIn();
         noneStuffedBehindTheCheck();
         oneStuffedBehindTheCheckIsTooMuch();
+        zeroForAFrame();
+        faultAndBit();
         endsTooEarly();
         somethingBehind();
         takesAnythingWhereItMay();
@@ -99,7 +101,7 @@ public final class ReadTest {
         reads("five 1 before the last of the check", Bits.flipped(Bits.onWire(false, 30, 0, 0), 35), 1035);
     }
 
-    /** "but none behind the last bit of the check": these end with five alike, and the delimiter follows at once */
+    /** "it takes bits as stuffed ones until it has a frame's": the delimiter follows at once behind five alike */
     private static void noneStuffedBehindTheCheck() {
         int found = 0;
         for (int identifier = 0; identifier < 2048; identifier++) {
@@ -130,6 +132,30 @@ public final class ReadTest {
         return bits.substring(0, delimiter) + more + bits.substring(delimiter);
     }
 
+    /** "Reads the tape from its beginning: 0, if it is a frame on the wire, as it is for a reader" */
+    private static void zeroForAFrame() {
+        int[][] frames = {{0, 0}, {0, 2047}, {1, 0}, {1, 536870911}};
+        for (int[] frame : frames) {
+            for (int n = 0; n <= 8; n += 8) {
+                String bits = Bits.onWire(frame[0] == 1, frame[1], -1, n);
+                reads("frame " + frame[1], bits, 0);
+                reads("frame " + frame[1] + " behind a 1", "1" + bits, 3000);
+                isNoFrame("frame " + frame[1] + " behind a 0", "0" + bits);
+            }
+        }
+    }
+
+    /** "otherwise 1000 times the fault and the bit with which it is found": from bit 0 to the last of a long frame */
+    private static void faultAndBit() {
+        String bits = Bits.onWire(true, 0, 0, 8);
+        int last = bits.length() - 1;
+        DUE.equal("a fault above bit 99 too", last > 99, true);
+        reads("fault 3 at bit 0", Bits.flipped(bits, 0), 3000);
+        reads("fault 1 at bit 5", Bits.flipped(bits, 5), 1005);
+        reads("fault 2 at the end of the answer", Bits.flipped(Bits.flipped(bits, last - 10), last - 7), 2000 + last - 7);
+        reads("fault 3 at the last", Bits.flipped(bits, last), 3000 + last);
+    }
+
     /** "4000 and its length (so 4000 for an empty one), if it ends too early" */
     private static void endsTooEarly() {
         reads("empty", "", 4000);
@@ -142,7 +168,7 @@ public final class ReadTest {
         }
     }
 
-    /** "5000 and the first bit behind": one, whatever it is, or many */
+    /** "and nothing behind it"; "5000 and the first bit behind": one, whatever it is, or many */
     private static void somethingBehind() {
         String bits = Bits.onWire(true, 99, 0x77, 1);
         reads("nothing behind", bits, 0);

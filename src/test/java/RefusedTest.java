@@ -12,12 +12,12 @@ public final class RefusedTest {
     private static final Class<UnsupportedOperationException> FULL = UnsupportedOperationException.class;
     private static final Class<NoSuchElementException> NONE_YET = NoSuchElementException.class;
     private static final int[] NO_NODES = {-1, 4, Integer.MIN_VALUE, Integer.MAX_VALUE};
-    private static final int TAPE_BITS = 9;
+    private static final int TAPE_BITS = 150;
 
     private record State(String name, int wire, Supplier<SharedWire> maker) {
     }
 
-    /** In each, node 3 wants four frames, node 2 wants and received none, and the tape has nine bits. */
+    /** In each, node 3 wants four frames, node 2 wants and received none, and the tape has 150 bits. */
     private static final State[] STATES = {
         new State("at rest", 0, () -> wanting()),
         new State("first bit", 1, () -> after(1)),
@@ -77,7 +77,9 @@ public final class RefusedTest {
     }
 
     private static SharedWire laid(SharedWire wire) {
-        wire.put(0b101100110, TAPE_BITS);
+        for (int i = 0; i < 3; i++) {
+            wire.put(0x2d5a5a5a5a5a5L, TAPE_BITS / 3);
+        }
         return wire;
     }
 
@@ -144,7 +146,7 @@ public final class RefusedTest {
     }
 
     private static void notPut(String in, Twins twins) {
-        for (int n : new int[] {-1, 0, 65, Integer.MIN_VALUE, Integer.MAX_VALUE, Integer.MAX_VALUE - TAPE_BITS}) {
+        for (int n : new int[] {-1, 0, 65, Integer.MIN_VALUE, Integer.MAX_VALUE, 51, 64}) {
             twins.answerFalse(in + "put of " + n, w -> w.put(-1, n));
         }
     }

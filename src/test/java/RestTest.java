@@ -5,6 +5,7 @@ public final class RestTest {
     public static void main(String[] args) {
         levelIsZeroIfOneSendsZero();
         levelWithNoneOn();
+        eachSeesTheLevelOrTheOther();
         whoBeginsToSend();
         senderSeesOne();
         oneOfTwoSendersSeesOne();
@@ -49,6 +50,25 @@ public final class RestTest {
         }
         wire.join(3);
         DUE.equal("level with one on", wire.step(1, 0), 0);
+    }
+
+    /** "Each node SEES the level, or the other one, if it is DISTURBED in this step." */
+    private static void eachSeesTheLevelOrTheOther() {
+        for (int disturbed = 0; disturbed <= 15; disturbed++) {
+            SharedWire low = wantedBy(1);
+            SharedWire high = new SharedWire();
+            low.step(1, disturbed & 14);
+            high.step(1, disturbed & 14);
+            for (int node = 1; node < 4; node++) {
+                boolean isDisturbed = (disturbed >> node & 1) == 1;
+                DUE.equal("0 for " + node + " of " + disturbed, low.node(node, Play.ROLE), isDisturbed ? 1 : 2);
+                DUE.equal("1 for " + node + " of " + disturbed, high.node(node, Play.ROLE), isDisturbed ? 2 : 1);
+            }
+        }
+        SharedWire next = new SharedWire();
+        next.step(2, 2);
+        next.step(1, 4);
+        DUE.equal("in this step, not in the next", next.node(1, Play.ROLE) * 10 + next.node(2, Play.ROLE), 22);
     }
 
     /** "each node that is on and offers a frame sends that frame's first bit, 0, and is a SENDER; all others send 1" */

@@ -47,6 +47,7 @@ public final class TapeTest {
         DUE.equal("the tape is as it was", wire.wipe(), length);
     }
 
+    /** "the bits on the wire of the frame ... (1 for the answer): how many" */
     private static void manyFrames() {
         int[] high = {0, 1, 31, 63, 992, 1024, 1365, 2047};
         int[] low = {0, 1, 0x1f, 0x2aaaa, 0x3ffff};

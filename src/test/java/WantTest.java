@@ -4,6 +4,7 @@ public final class WantTest {
 
     public static void main(String[] args) {
         anyNode();
+        refusesNoFrame();
         countsUpToFour();
         wrongFrameBeforeNoRoom();
         roomAgainWhenOneIsSent();
@@ -30,6 +31,22 @@ public final class WantTest {
         }
     }
 
+    /** "IllegalArgumentException when the identifier is not as said, or n is not 0 .. 8" */
+    private static void refusesNoFrame() {
+        Twins twins = new Twins(DUE, () -> withWanted(2, 1));
+        int[][] wrong = {{0, -1, 0}, {0, 2048, 0}, {1, -1, 0}, {1, 1 << 29, 0}, {0, 0, -1}, {0, 2047, 9}, {1, 0, -1},
+            {1, (1 << 29) - 1, 9}, {0, -1, -1}, {1, 1 << 29, 9}};
+        for (int[] frame : wrong) {
+            twins.refuse("long " + frame[0] + ", " + frame[1] + ", n " + frame[2], IllegalArgumentException.class,
+                    w -> w.want(2, frame[0] == 1, frame[1], 0, frame[2]));
+        }
+        int[][] right = {{0, 0, 0}, {0, 2047, 8}, {1, 0, 8}, {1, (1 << 29) - 1, 0}};
+        for (int[] frame : right) {
+            DUE.equal("long " + frame[0] + ", " + frame[1] + ", n " + frame[2],
+                    withWanted(2, 1).want(2, frame[0] == 1, frame[1], 0, frame[2]), 2);
+        }
+    }
+
     private static SharedWire withWanted(int node, int count) {
         SharedWire wire = new SharedWire();
         for (int i = 0; i < count; i++) {
@@ -38,7 +55,10 @@ public final class WantTest {
         return wire;
     }
 
-    /** "how many it wants to"; "UnsupportedOperationException when there are 4" */
+    /**
+     * "A node has at most 4 frames that it WANTS to send"; "A node wants to send one more frame: how many it
+     * wants to."; "UnsupportedOperationException when there are 4"
+     */
     private static void countsUpToFour() {
         for (int before = 0; before < 4; before++) {
             SharedWire wire = withWanted(2, before);
