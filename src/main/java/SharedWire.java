@@ -260,7 +260,7 @@ public final class SharedWire {
         for (int i = 0; i < NODES; i++) {
             int seen = level ^ (disturbed >> i & 1);
             nodes[i].see(seen);
-            wrong |= nodes[i].fault != NO_FAULT;
+            wrong = wrong || nodes[i].fault != NO_FAULT;
         }
         return wrong;
     }
@@ -276,7 +276,7 @@ public final class SharedWire {
         boolean someAtWork = false;
         for (int i = 0; i < NODES; i++) {
             nodes[i].endFrame();
-            someAtWork |= nodes[i].isAtWork();
+            someAtWork = someAtWork || nodes[i].isAtWork();
         }
         if (someAtWork) {
             enter(BUSY);

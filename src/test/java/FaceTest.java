@@ -5,7 +5,7 @@ import java.lang.reflect.Modifier;
 import java.util.Arrays;
 import java.util.TreeSet;
 
-/** The public face, nothing beside it, and the example of README.md. */
+/** The public face, and nothing beside it. */
 public final class FaceTest {
     private static final Due DUE = new Due();
     private static final String OUT = "IndexOutOfBoundsException";
@@ -24,7 +24,6 @@ public final class FaceTest {
         for (Constructor<?> made : SharedWire.class.getDeclaredConstructors()) {
             DUE.equal("constructor", made.toString(), "public SharedWire()");
         }
-        example();
         DUE.end();
     }
 
@@ -68,17 +67,5 @@ public final class FaceTest {
             boolean isStatic = Modifier.isStatic(field.getModifiers());
             DUE.equal(field + " is no static state", isStatic && !Modifier.isFinal(field.getModifiers()), false);
         }
-    }
-
-    private static void example() {
-        SharedWire wire = new SharedWire();
-        wire.want(0, false, 5, 0xA5L, 1);
-        wire.want(1, true, 1 << 21, 0, 0);
-        wire.step(55, 0);
-        DUE.equal("received(2, 0)", wire.received(2, 0), 5);
-        DUE.equal("node(1, 3)", wire.node(1, 3), 1);
-        wire.tape(1);
-        wire.flip(20);
-        DUE.equal("read() refuses", wire.read() != 0, true);
     }
 }

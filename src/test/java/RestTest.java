@@ -11,6 +11,7 @@ public final class RestTest {
         oneOfTwoSendersSeesOne();
         whoBeginsToRead();
         restOrBusy();
+        whoIsOffSeesNothing();
         DUE.end();
     }
 
@@ -156,6 +157,22 @@ public final class RestTest {
         if (due == 0) {
             wire.step(200, 0);
             DUE.equal(what + ", 200 steps later", wire.wire(), 0);
+        }
+    }
+    /**
+     * "A node that is on, no sender, and sees 0, is a reader who has read that. If no node sends and none
+     * sees 0, the wire is at rest still": one that is off is never asked, disturbed or not.
+     */
+    private static void whoIsOffSeesNothing() {
+        for (int disturbed = 0; disturbed <= 15; disturbed++) {
+            SharedWire wire = Play.withNodeOff(2);
+            String what = "2 off, disturbed " + disturbed;
+            DUE.equal(what + ", level", wire.step(1, disturbed), 1);
+            DUE.equal(what + ", wire", wire.wire(), (disturbed & 11) == 0 ? 0 : 1);
+            for (int node = 0; node < 4; node++) {
+                int seen = (disturbed >> node & 1) == 1 ? 2 : 1;
+                DUE.equal(what + ", role of " + node, wire.node(node, Play.ROLE), node == 2 ? 0 : seen);
+            }
         }
     }
 }

@@ -114,6 +114,7 @@ public final class StepTest {
         return wire;
     }
 
+    /** "(... of no use where they see nothing)": so does one that is off */
     private static void noUseForOffNodes() {
         SharedWire atRest = Play.withNodeOff(0);
         String before = Play.wholeWire(atRest);
